@@ -278,6 +278,8 @@ public final class PromisesTest {
         }
         x = light(60, 1);
         due("nine at most", x.lies(0, 0), 69);
+        due("into the first cell", light(12, 0).lies(0, 0) + light(1, 3).lies(0, 0), 0);
+        due("into the last cell", light(131, 2).lies(0, 0) + light(142, 1).lies(0, 0), 286);
     }
 
     private static void promise9Meeting() {
@@ -368,6 +370,7 @@ public final class PromisesTest {
         due("the 200th is kept", x.tracks(56, 19, -1), 4);
         due("which it is", x.tracks(56, 19, 3), 343);
         due("the 201st is not", x.tracks(55, 19, -1), 3);
+        due("there is no fourth of its cell", x.tracks(55, 19, 3), -5);
         due("nor any of the last stone", x.tracks(69, 19, -1), 1);
         x.night(0, 1, 99, 9, false);
         due("a dry night leaves none", x.tracks(0, 0, -1), 0);
@@ -484,6 +487,8 @@ public final class PromisesTest {
         x.stake(61, true);
         due("held", x.hold(0, 1), -6);
         due("counted as BAD", new RolledStones().hold(0, 0), -10);
+        due("the first cell of all", light(1, 3).hold(0, 0), 0);
+        due("the last cell of all", light(142, 1).hold(0, 0), 143);
     }
 
     private static void promise18Spring() {
@@ -499,6 +504,9 @@ public final class PromisesTest {
             due("above, " + Arrays.toString(c), x.part(0), c[2] / g);
             due("below, " + Arrays.toString(c), x.part(1), c[3] / g);
         }
+        x.stone(0, 0, 10);
+        x.spring(2, 2, 50, 1, 0);
+        due("in a corner: stays by two ways, or goes and comes back", x.part(0) * 10 + x.part(1), 38);
         x.spring(0, 8, 39, 1, 66);
         due("it stays", x.part(0) * 10 + x.part(1), 11);
         x.stake(54, true);
@@ -507,7 +515,7 @@ public final class PromisesTest {
         due("a stake holds it by one way", x.part(0) * 10 + x.part(1), 14);
         x.spring(0, 1, 40, 2, 53);
         due("a fence turns it by another", x.part(0) * 10 + x.part(1), 14);
-        allRefused(x, "spring", -2, x.spring(-1, 0, 0, 0, 0), x.spring(2, 0, 0, 0, 0), x.spring(0, -1, 0, 0, 0),
+        allRefused(x, "spring", -2, x.spring(-1, 0, 0, 0, 0), x.spring(3, 0, 0, 0, 0), x.spring(0, -1, 0, 0, 0),
                 x.spring(0, 9, 0, 0, 0), x.spring(0, 0, -1, 0, 0), x.spring(0, 0, 100, 0, 0), x.spring(0, 0, 0, -1, 0),
                 x.spring(0, 0, 0, 10, 0), x.spring(0, 0, 0, 0, -1), x.spring(0, 0, 0, 0, 144));
         due("refusals leave the fraction", x.part(1), 4);
@@ -612,6 +620,15 @@ public final class PromisesTest {
         due("both lie so", x.guess(0, 0), pushes(200, 299));
         x.found(1, 1, 100);
         due("not both", x.guess(0, 0), 0);
+        x = new RolledStones();
+        x.stone(0, 66, 25);
+        x.stone(1, 79, 60);
+        x.fence(67, 1);
+        x.found(0, 1, 91);
+        // To the right: the first one is turned down and meets the egg, that needs 240 so, with one step left of two.
+        // Down: the egg rolls a step of its own.
+        due("an egg met across the wind", x.guess(0, 0), pushes(240, 299) + pushes(240, 479));
+        due("the first: 27 by 9", x.guess(0, 1), 1279);
     }
 
     private static void promise23GuessWay() {
@@ -672,6 +689,13 @@ public final class PromisesTest {
         }
         x.found(0, 0, 1);
         due("none, up to the last", x.seeds(999999, 99), -1);
+        // Seed 999999 pushes up by 58 times 3 in night 0; 1000000 would push down by 16 times 8.
+        x = new RolledStones();
+        x.stone(0, 66, 25);
+        x.found(0, 0, 54);
+        due("the last seed", x.seeds(999990, 20), 999999);
+        x.found(0, 0, 78);
+        due("there is none behind the last", x.seeds(999999, 5), -1);
     }
 
     private static void promise25Type() {
@@ -726,7 +750,8 @@ public final class PromisesTest {
             {"claim 0 1 2 2 3;", 12}, {"claim 0 1 2 0 100;", 14}, {"claim 0 1 2 0 003;", 14}, {"claim 0 1 2 0;", 13},
             {"claim 0 1 2 0 3 4;", 16}, {"back 0 0 3;", 7}, {"back 0 1 2 3;", 11}, {"back 0 1 back", 9}, {"back 0 1 -2;", 9},
             {"back 0 1 2,", 10}, {"back\t0 1 2;", 4}, {"back 0 1 2; x", 12}, {"back 0 1 2;\n", 11}, {"back 0 " + (char) 233, 7},
-            {"back 0 1 2" + (char) 0, 10}, {"claim 0 123456789012345678901 2 0 3;", 8}, {"back 01", 7}, {"back 0 0", 7}};
+            {"back 0 1 2" + (char) 0, 10}, {"claim 0 123456789012345678901 2 0 3;", 8}, {"xlaim 0 1 2 0 3;", 0}, {"claix 0 1 2 0 3;", 0},
+            {"bakk 0 1 2;", 0}, {"back 0 1 2;" + (char) 0, 11}, {"back 0 1 2;" + (char) 255, 11}, {"back 01", 7}, {"back 0 0", 7}};
         for (Object[] c : faults) due("'" + c[0] + "'", faultOf(x, (String) c[0]), (Integer) c[1]);
         due("a stone that is not there", faultOf(x, "claim 0 1 2 2 3;"), 12);
         x.stone(0, 2, 1);
@@ -767,6 +792,10 @@ public final class PromisesTest {
         x.found(5, 1, 31);
         due("another night: stone 0 was not found", x.claims(2), 2);
         due("wrong", x.claims(1), 3);
+        x.clear();
+        typeText(x, "claim0 1 2 0 3;".repeat(13));
+        due("as many as there is room for", x.claims(0), 13);
+        due("with all that they say", x.owed(0, 1), 39);
         allRefused(x, "claims", -2, x.claims(-1), x.claims(3), x.claims(BIG));
         typeText(x, "x");
         due("a fault", x.claims(0), -3);
@@ -782,8 +811,10 @@ public final class PromisesTest {
         due("the other way", x.owed(1, 0), 20);
         due("more was given back", x.owed(4, 5), -9);
         due("nothing", x.owed(5, 4), 0);
+        typeText(x, "back 0 1 1;");
+        due("given back twice", x.owed(0, 1), 26);
         x.found(4, 0, 0);
-        due("an unsure one does not count", x.owed(0, 1), 20);
+        due("an unsure one does not count", x.owed(0, 1), 19);
         allRefused(x, "owed", -1000000, x.owed(-1, 0), x.owed(6, 0), x.owed(0, -1), x.owed(0, 6), x.owed(3, 3), x.owed(BIG, SMALL));
         typeText(x, ";");
         due("a fault", x.owed(0, 1), -2000000);
@@ -884,6 +915,18 @@ public final class PromisesTest {
         due("BAD is not kept", x.status(0), 4);
         due("NO is not kept", x.status(1), 1);
         due("the other image neither", x.from(1), 1);
+        x = toAndFro();
+        x.image(0);
+        due("another object of six", x.from(0), 1);
+        due("the last one's need", x.need(5, 3), 4);
+        RolledStones y = new RolledStones();
+        y.image(0);
+        for (int cell = 0; cell < 6; cell++) y.stone(1, cell, 2);
+        y.image(1);
+        y.from(0);
+        for (int cell = 0; cell < 6; cell++) y.stone(0, cell, 3);
+        y.from(1);
+        due("needs are kept, too", y.need(5, 3) * 100 + y.need(5, 2), 1608);
     }
 
     private static void promise35Status() {
@@ -912,7 +955,7 @@ public final class PromisesTest {
         x.stake(2, true);
         x.stake(3, true);
         x.stake(2, false);
-        x.stake(9, true);
+        x.stake(0, true);
         typeText(x, "back");
         x.found(1, 1, 1);
         due("stones", x.count(0), 2);
