@@ -472,7 +472,10 @@ public final class RolledStones {
                 continue;
             }
             for (int way = 0; way < WAYS; way++) {
-                later[walk.loneRoll(field, stone, cell, way, push)] += chance[cell];
+                int rest = walk.loneRoll(field, stone, cell, way, push);
+                if (within(rest, CELLS)) {
+                    later[rest] += chance[cell];
+                }
             }
         }
         System.arraycopy(later, 0, chance, 0, CELLS);
@@ -841,7 +844,7 @@ public final class RolledStones {
             int left = on.stepsBy(stone, way, push);
             for (int tries = 0; left > 0 && tries < MOST_TRIES; tries++) {
                 int next = nextCell(at[stone], way);
-                if (next == NONE || on.stakeIn[next] == 1) {
+                if (!within(next, CELLS) || on.stakeIn[next] == 1) {
                     return;
                 }
                 int other = stoneIn(next);
@@ -975,7 +978,7 @@ public final class RolledStones {
             }
             for (int step = 0; step < steps; step++) {
                 int next = nextCell(stepFrom[step], wayOfStep(step));
-                if (next != NONE) {
+                if (within(next, CELLS)) {
                     come[next] = true;
                 }
             }

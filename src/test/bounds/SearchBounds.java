@@ -20,6 +20,7 @@ final class SearchBounds {
     private void watch() {
         s.says(TERMS, "WATCH: the fewest NIGHTS up to k (of 0 .. 9 alone)", this::fewestNights);
         s.says(TERMS, "so that each STONE that MOVED in some NIGHT up to k (0 .. 9) MOVED in one of these,", this::watchUpToANight);
+        s.says(TERMS, "so that each STONE that MOVED in some NIGHT up to k (0 .. 9) MOVED in one of these,", this::laterNightsAreNotWatched);
         s.says(TERMS, "of like ones the least bits.", this::leastBits);
         s.says("Promise 16", "WATCH (k 0 .. 9), as bits.", this::nothingToWatch);
         s.says("Promise 16", "BAD.", () -> s.bounds("k", 0, 9, -2, Sheet::some, (x, v) -> x.watch(v)));
@@ -69,6 +70,8 @@ final class SearchBounds {
         s.says(TERMS, "GUESS: for NIGHT n all WAYS, FORCES 0 .. 99, ICES 0 .. 9 are tried in place of its own (WET as it is):", this::theLastWeatherOfAll);
         s.says(TERMS, "those by which all STONES that were FOUND lie so behind their NIGHT", this::allThatWereFound);
         s.says(TERMS, "those by which all STONES that were FOUND lie so behind their NIGHT", this::guessBehindTheNightFound);
+        s.says(TERMS, "those by which all STONES that were FOUND lie so behind their NIGHT", this::guessOfTheLastStone);
+        s.says(TERMS, "those by which all STONES that were FOUND lie so behind their NIGHT", this::guessWithOneMetFromTheSide);
         s.says(TERMS, "(NO: nothing was FOUND):", this::guessWithNothingFound);
         s.says(TERMS, "how many, the first (by WAY, FORCE, ICE),", this::howManyAndTheFirst);
         s.says("Promise 22", "GUESS: how many (0), the first: 1000 times the WAY, 10 times FORCE, and ICE (1).", this::howManyAndTheFirst);
@@ -121,6 +124,21 @@ final class SearchBounds {
         s.asked(x, 0, "nights past 9 are not looked at", y -> y.watch(9));
         x.night(0, 1, 4, 1, false);
         s.asked(x, 1, "the first night alone", y -> y.watch(0));
+    }
+
+    private void laterNightsAreNotWatched() {
+        RolledStones x = Sheet.lights(0, 71);
+        x.night(0, 1, 4, 1, false);
+        x.night(1, 0, 4, 1, false);
+        x.night(2, 2, 4, 1, false);
+        // The first one moves in night 0, the second one in night 1, both in night 2.
+        int[] watched = {1, 3, 4};
+        for (int k = 0; k < 3; k++) {
+            int last = k;
+            s.asked(x, k + 1, "moved in " + k, y -> y.moved(last));
+            x.lies(0, 19);
+            s.asked(x, watched[k], "up to " + k + ", when later nights have been looked at", y -> y.watch(last));
+        }
     }
 
     private void leastBits() {
@@ -260,6 +278,8 @@ final class SearchBounds {
         chance(x, 0, new int[] {1, 4, 1}, 67, 1, 4);
         chance(x, 0, new int[] {2, 4, 1}, 68, 1, 16);
         chance(x, 1, new int[] {1, 99, 9}, 67, 1, 1);
+        x.lies(0, 19);
+        chance(x, 0, new int[] {2, 4, 1}, 68, 1, 16);
     }
 
     private void springSteered() {
@@ -414,6 +434,45 @@ final class SearchBounds {
         x.found(19, 0, 66);
         s.asked(x, 4 * 114, "night 2 has to leave it there", y -> y.guess(2, 0));
         s.asked(x, 4 * 114, "the last one, too", y -> y.guess(19, 0));
+    }
+
+    private void guessOfTheLastStone() {
+        RolledStones x = Sheet.lights(0, 12, 24, 36, 48, 60);
+        x.night(0, 1, 8, 1, false);
+        x.night(19, 1, 4, 1, false);
+        x.found(19, 5, 64);
+        // Two, then one that is looked for, then one to the right again.
+        s.asked(x, 11, "pushes 4 to 7", y -> y.guess(1, 0));
+        s.asked(x, 1014, "to the right", y -> y.guess(1, 1));
+        s.asked(x, pushes(8, 11), "night 19 may go two", y -> y.guess(19, 0));
+    }
+
+    private void guessWithOneMetFromTheSide() {
+        RolledStones x = new RolledStones();
+        x.stone(0, 66, 25);
+        x.stone(1, 79, 60);
+        x.fence(67, 1);
+        x.found(0, 1, 91);
+        // To the right: the first one is turned down and meets the egg, whose NEED is 240 so, with one step left of two.
+        // Down: the egg goes a step of its own.
+        s.asked(x, pushes(240, 299) + pushes(240, 479), "from the side and by itself", y -> y.guess(0, 0));
+        s.asked(x, 1279, "the first: 27 by 9", y -> y.guess(0, 1));
+        RolledStones y = new RolledStones();
+        y.stone(0, 66, 25);
+        y.stone(1, 55, 35);
+        y.fence(54, 1);
+        y.stake(43, true);
+        y.stake(44, true);
+        y.found(0, 1, 56);
+        // Upwards: the first one is turned to the right and meets the egg, whose NEED is 280 so, and which can not go up.
+        // By itself to the right the egg goes one by 280 to 419.
+        s.asked(y, pushes(280, 299) + pushes(280, 419), "just its need", z -> z.guess(0, 0));
+        RolledStones left = new RolledStones();
+        left.stone(0, 66, 25);
+        left.stone(1, 53, 60);
+        left.fence(65, 1);
+        left.found(0, 1, 41);
+        s.asked(left, pushes(240, 299) + pushes(240, 479), "to the left, turned upwards, and upwards by itself", z -> z.guess(0, 0));
     }
 
     private void guessWithNothingFound() {

@@ -186,6 +186,20 @@ final class Sheet {
         return x;
     }
 
+    /** The most of everything: six stones, the last cells, the last night, a full book, the last stone found. */
+    static RolledStones brimful() {
+        RolledStones x = new RolledStones();
+        for (int stone = 0; stone < 6; stone++) {
+            x.stone(1, 12 * stone + 5, 94 + stone);
+        }
+        x.fence(143, 3);
+        x.stake(143, true);
+        x.night(19, 3, 99, 9, true);
+        text(x, "back5 4 9;".repeat(20));
+        x.found(19, 5, 143);
+        return x;
+    }
+
     static void text(RolledStones x, String text) {
         for (int at = 0; at < text.length(); at += 8) {
             String piece = text.substring(at, Math.min(text.length(), at + 8));

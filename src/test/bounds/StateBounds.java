@@ -16,6 +16,8 @@ final class StateBounds {
 
     private void terms() {
         s.says(TERMS, "IMAGES 0, 1 keep all but them,", this::imagesKeepAll);
+        s.says(TERMS, "IMAGES 0, 1 keep all but them,", this::imageOfTheMost);
+        s.says(TERMS, "IMAGES 0, 1 keep all but them,", this::imagesOfOtherStones);
         s.says(TERMS, "IMAGES 0, 1 keep all but them,", this::imagesAreNotInImages);
         s.says(TERMS, "THE FRACTION and STATUS;", this::fractionAndStatusGoOn);
         s.says(TERMS, "it goes on from one.", this::goesOnFromOne);
@@ -104,6 +106,46 @@ final class StateBounds {
             s.due("found", x.count(3), 1);
             s.due("proof", x.proof(), 1);
         }
+    }
+
+    /** An image of the most is kept in an object that has held nothing, and then other things, since. */
+    private void imageOfTheMost() {
+        RolledStones x = Sheet.brimful();
+        long most = x.digest();
+        x.image(0);
+        s.due("kept", x.digest(), most);
+        x.clear();
+        Sheet.text(x, "x".repeat(200));
+        x.night(19, 0, 1, 1, false);
+        x.stake(143, false);
+        x.fence(143, 0);
+        x.found(18, 0, 0);
+        x.from(0);
+        s.due("to the last cell, night and byte", x.digest(), most);
+        s.due("the last byte is an item's end", x.fault(), -1);
+        s.due("where the last stone was found", x.proof(), 32);
+    }
+
+    /** Stones of an image over those of another one, to the last of each. */
+    private void imagesOfOtherStones() {
+        RolledStones x = new RolledStones();
+        x.image(0);
+        for (int stone = 0; stone < 6; stone++) {
+            x.stone(1, 12 * stone + 5, 94 + stone);
+        }
+        x.image(1);
+        long six = x.digest();
+        x.from(0);
+        for (int stone = 0; stone < 6; stone++) {
+            x.stone(4, 143 - stone, 1 + stone);
+        }
+        x.from(1);
+        s.due("shapes, cells, weights", x.digest(), six);
+        x.night(0, 3, 99, 8, false);
+        // 792 is just the NEED of an egg of weight 99 to the left.
+        s.due("need of the last one", x.need(5, 3), 792);
+        s.due("it rolls by one step", x.lies(5, 0), 64);
+        s.due("the first one rolls by its weight of 94", x.work(0, 0), 1);
     }
 
     private void imagesAreNotInImages() {

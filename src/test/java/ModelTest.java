@@ -80,7 +80,7 @@ public final class ModelTest {
             if (m.stones.isEmpty() || random.nextInt(5) == 0) {
                 return cell();
             }
-            return x.lies(random.nextInt(m.stones.size()), random.nextInt(21) - 1);
+            return m.lies(random.nextInt(m.stones.size()), random.nextInt(21) - 1);
         }
 
         int stone() {
@@ -132,7 +132,7 @@ public final class ModelTest {
             int c = cell();
             boolean known = k >= 0 && k < 20 && s >= 0 && s < m.stones.size();
             if (known && random.nextInt(4) != 0) {
-                c = x.lies(s, k);
+                c = m.lies(s, k);
             }
             set("found(" + k + ", " + s + ", " + c + ")", x.found(k, s, c), m.found(k, s, c));
         }

@@ -12,7 +12,7 @@ public final class RoomTest {
         long begun = bean.getThreadAllocatedBytes(id);
         RolledStones x = full();
         long made = bean.getThreadAllocatedBytes(id);
-        for (int i = 0; i < 40; i++) {
+        for (int i = 0; i < 30; i++) {
             dearest(x);
         }
         long called = bean.getThreadAllocatedBytes(id);
