@@ -1,3 +1,5 @@
+import java.io.PrintWriter;
+import java.io.StringWriter;
 import java.lang.reflect.Constructor;
 import java.lang.reflect.Field;
 import java.lang.reflect.Method;
@@ -5,12 +7,16 @@ import java.lang.reflect.Modifier;
 import java.nio.file.Files;
 import java.nio.file.Path;
 import java.util.ArrayDeque;
+import java.util.ArrayList;
 import java.util.Deque;
 import java.util.List;
+import java.util.Map;
 import java.util.Set;
+import java.util.TreeMap;
 import java.util.TreeSet;
 import java.util.regex.Matcher;
 import java.util.regex.Pattern;
+import java.util.spi.ToolProvider;
 
 /** What of the rules of LANGUAGE.md can be seen from outside or in the text; run from the project's root. */
 public final class LanguageTest {
@@ -20,6 +26,10 @@ public final class LanguageTest {
             "guessWay", "seeds", "type", "clear", "fault", "claims", "owed", "net", "fewest", "part", "image", "from", "status",
             "count", "digest");
     private static final Set<String> CONSTANTS = Set.of("NONE", "BAD", "NO", "FULL");
+    private static final Set<String> LIBRARY = Set.of("java/lang/Math.min", "java/lang/Math.max", "java/lang/Integer.bitCount",
+            "java/lang/Integer.numberOfTrailingZeros", "java/lang/System.arraycopy", "java/util/Arrays.fill",
+            "java/lang/String.length", "java/lang/String.charAt", "java/lang/Object.\"<init>\"");
+    private static final int MOST_CALLS_DEEP = 8;
     private static int wrong = 0;
 
     private static void rule(int number, boolean kept, String what) {
@@ -36,6 +46,7 @@ public final class LanguageTest {
         words(text);
         statics();
         lengths(text);
+        calls(callsOfMethods());
         System.out.println(wrong == 0 ? "the rules are kept" : wrong + " rules are not kept");
         if (wrong != 0) {
             System.exit(1);
@@ -130,5 +141,62 @@ public final class LanguageTest {
             methods++;
         }
         rule(11, methods > 37, "methods seen: " + methods);
+    }
+
+    /** Each method of the compiled class, and what it calls, by the names that javap tells. */
+    private static Map<String, Set<String>> callsOfMethods() {
+        List<String> command = new ArrayList<>(List.of("-c", "-p", "-cp", System.getProperty("java.class.path"), "RolledStones"));
+        for (Class<?> c : RolledStones.class.getDeclaredClasses()) {
+            command.add(c.getName());
+        }
+        StringWriter told = new StringWriter();
+        PrintWriter into = new PrintWriter(told);
+        ToolProvider javap = ToolProvider.findFirst("javap").orElseThrow();
+        rule(11, javap.run(into, into, command.toArray(new String[0])) == 0, "javap tells the calls");
+        into.flush();
+        Map<String, Set<String>> calls = new TreeMap<>();
+        String owner = "";
+        String method = "";
+        for (String line : told.toString().split("\\R")) {
+            Matcher ofClass = Pattern.compile("^[a-z ]*class ([\\w$]+).*\\{$").matcher(line);
+            Matcher ofMethod = Pattern.compile("^  (?:\\S+ )*([\\w$]+)\\([^)]*\\);$").matcher(line);
+            Matcher ofCall = Pattern.compile("// (?:Interface)?Method (\\S+?):").matcher(line);
+            if (ofClass.find()) {
+                owner = ofClass.group(1);
+            } else if (ofMethod.find()) {
+                String name = ofMethod.group(1);
+                method = owner + "." + (name.equals(owner) ? "\"<init>\"" : name);
+                calls.put(method, new TreeSet<>());
+            } else if (ofCall.find() && calls.containsKey(method)) {
+                String callee = ofCall.group(1);
+                calls.get(method).add(callee.contains(".") ? callee : owner + "." + callee);
+            }
+        }
+        return calls;
+    }
+
+    private static void calls(Map<String, Set<String>> calls) {
+        for (String name : CALLS) {
+            rule(11, calls.containsKey("RolledStones." + name), "calls of " + name + " were seen");
+        }
+        calls.forEach((method, called) -> {
+            for (String callee : called) {
+                rule(4, calls.containsKey(callee) || LIBRARY.contains(callee), method + " calls " + callee);
+            }
+            int deep = depth(method, calls, 1);
+            rule(11, deep <= MOST_CALLS_DEEP, "calls of " + method + " go deeper than " + MOST_CALLS_DEEP + " (or are a recursion)");
+        });
+    }
+
+    /** How deep the calls of a method go, itself being the first; past the most it is not looked for further. */
+    private static int depth(String method, Map<String, Set<String>> calls, int level) {
+        int deepest = level;
+        if (level > MOST_CALLS_DEEP) {
+            return deepest;
+        }
+        for (String callee : calls.getOrDefault(method, Set.of())) {
+            deepest = Math.max(deepest, depth(callee, calls, level + 1));
+        }
+        return deepest;
     }
 }
